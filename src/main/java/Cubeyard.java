@@ -342,7 +342,7 @@ public final class Cubeyard {
         edges[place] = edge;
     }
 
-    /** Volumes, each told as one int: 4 times its count, and its kind (EIGHTHS and BELOW, or neither) in the last bits. */
+    /** Volumes, each told as one int: 4 times its count and, in the last two bits, its kind: EIGHTHS, BELOW, or both. */
     private static final class Volumes {
         static final int MOST = 65535;
         static final int EIGHTHS = 1;
@@ -447,9 +447,8 @@ public final class Cubeyard {
         }
 
         static double toNumber(long bits) {
-            int scale = scaleOf(bits);
-            double mantissa = (double) mantissaOf(bits);
-            return scale < 0 ? mantissa / (double) (1L << -scale) : mantissa * (double) (1L << scale);
+            // Below 2 to the power 52 the scale is below 0.
+            return (double) mantissaOf(bits) / (double) (1L << -scaleOf(bits));
         }
 
         /** The m of a number m times 2 to the power k, from 2 to the power 52 to 2 to the power 53 less one. */

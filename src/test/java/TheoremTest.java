@@ -1,4 +1,5 @@
 import java.lang.reflect.Constructor;
+import java.lang.reflect.Field;
 import java.lang.reflect.InvocationTargetException;
 import java.lang.reflect.Method;
 import java.math.BigDecimal;
@@ -25,6 +26,7 @@ public final class TheoremTest {
         wrongProducts();
         wrongSums();
         wrongOrders();
+        wrongYards();
         Check.close();
     }
 
@@ -202,5 +204,22 @@ public final class TheoremTest {
             Check.due("(4) of " + whole, part("isRootOfItsCube", types(int.class), whole), true);
         }
         Check.due("(4) of no volume", part("isRootOfItsCube", types(int.class), 41), true);
+    }
+
+    /** An edge that is wrong by one bit, at any place, makes the yard unsound. */
+    private static void wrongYards() throws ReflectiveOperationException {
+        Field field = Cubeyard.class.getDeclaredField("edges");
+        field.setAccessible(true);
+        for (int place = 0; place < 8; place++) {
+            for (long wrong : new long[] {1L, Long.MIN_VALUE, 1L << 52}) {
+                Cubeyard yard = new Cubeyard();
+                for (int other = 0; other < 8; other++) {
+                    yard.put(other, 100 * other + 3, other % 2 == 0, other % 3 == 0);
+                }
+                Check.holds("the yard is sound", yard.isSound());
+                ((long[]) field.get(yard))[place] ^= wrong;
+                Check.due("the yard with a wrong edge at " + place, yard.isSound(), false);
+            }
+        }
     }
 }
