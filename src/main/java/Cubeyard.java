@@ -342,7 +342,7 @@ public final class Cubeyard {
         edges[place] = edge;
     }
 
-    /** Volumes, each told as one int: 4 times its count and, in the last two bits, its kind: EIGHTHS, BELOW, or both. */
+    /** Volumes, each told as one int: 4 times its count and, in the last two bits, its kind (EIGHTHS and BELOW). */
     private static final class Volumes {
         static final int MOST = 65535;
         static final int EIGHTHS = 1;
