@@ -25,13 +25,7 @@ final class Check {
         due(what, isSo, true);
     }
 
-    /** The exception must be of just this class, and the object must be left as it was. */
-    static void refuses(String what, Cubeyard yard, Class<? extends RuntimeException> want, Call call) {
-        String before = Looks.of(yard);
-        due(what, outcome(call), "throws." + want.getSimpleName());
-        due(what + " leaves the object", Looks.of(yard), before);
-    }
-
+    /** Of an exception the class's own name, so that a class below the documented one is told apart. */
     static Object outcome(Call call) {
         try {
             return call.answer();

@@ -184,7 +184,7 @@ final class Model {
 
     boolean isNear(int place) {
         look(place);
-        return isNear(places[place]);
+        return liesNear(places[place]);
     }
 
     boolean multiply(int place, int other, int into) {
@@ -319,7 +319,7 @@ final class Model {
         return Double.doubleToLongBits(one) == Double.doubleToLongBits(other);
     }
 
-    static boolean isNear(Cube cube) {
+    static boolean liesNear(Cube cube) {
         double edge = cube.edge();
         if (cube.count() == 0) {
             return isSame(edge, cube.isBelow() ? -0.0 : 0.0);

@@ -60,7 +60,7 @@ public final class TheoremTest {
                 if (8 * number <= 65535) {
                     Check.due("(2) of " + number, StrictMath.cbrt(8 * number), 2 * edge);
                 }
-                Check.holds("(3) of " + number, Model.isNear(cube));
+                Check.holds("(3) of " + number, Model.liesNear(cube));
                 Check.holds("(5) of " + number,
                         count == 0 || edge > new Model.Cube(count - 1, kind == 1, false).edge());
                 long fine = cube.fine();
